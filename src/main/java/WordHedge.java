@@ -343,7 +343,7 @@ public final class WordHedge {
   public int text() {
     trial.become(lane);
     int items = reader.readText(trial);
-    if (items >= 0) lane.become(trial);
+    if (items > 0) lane.become(trial);
     tape.size = 0;
     return items;
   }
@@ -650,7 +650,7 @@ public final class WordHedge {
         case HAWTHORN:
         case MAY: return words <= 4 ? asSlip + 1 : asSlip;
         case LATIN: return 2 * asSlip;
-        case ELEGY: return Math.max(0, 2 * asSlip - 1);
+        case ELEGY: return asSlip > 0 ? 2 * asSlip - 1 : 0;
         case SLIPPER: return 0;
         default: return asSlip;
       }
@@ -663,7 +663,9 @@ public final class WordHedge {
     }
 
     boolean isCovering(int asked) {
-      return (coverSet() >> asked & 1) == 1;
+      if (asked == place) return true;
+      if (laid == TO_GREATER) return asked > place && asked - place <= reaches();
+      return laid == TO_LESSER && asked < place && place - asked <= reaches();
     }
 
     int strongIn(int year) {
@@ -964,7 +966,6 @@ public final class WordHedge {
     private int token = END;
     private int start = 0;
     private int end = 0;
-    private int value = 0;
 
     TextReader(Tape tape) {
       this.tape = tape;
@@ -1040,9 +1041,19 @@ public final class WordHedge {
     }
 
     private int readNumber(int least, int most) {
-      if (token != NUMBER || !isIn(value, least, most)) return REFUSED;
-      int number = value;
+      if (token != NUMBER) return REFUSED;
+      int number = numberTold();
+      if (!isIn(number, least, most)) return REFUSED;
       step();
+      return number;
+    }
+
+    /** A number above the most that may stand is one more digit at most: it can't wrap around. */
+    private int numberTold() {
+      int number = 0;
+      for (int i = start; i < end && i < tape.size && number <= MOST_NUMBER; i++) {
+        number = 10 * number + tape.bytes[i] - '0';
+      }
       return number;
     }
 
@@ -1065,46 +1076,27 @@ public final class WordHedge {
       return true;
     }
 
+    /** The next token; one loop each, and no calls, as this is where the calls are deepest. */
     private void step() {
       start = end;
       while (start < tape.size && tape.bytes[start] == ' ') {
         start++;
       }
       end = start;
-      if (start >= tape.size) {
-        token = END;
-      } else if (isLetter(start)) {
-        token = WORD;
-        stepOverLetters();
-      } else if (isDigit(start)) {
-        token = NUMBER;
-        stepOverDigits();
-      } else {
-        token = tape.bytes[start] == ';' ? SEMICOLON : NO_TOKEN;
+      token = WORD;
+      while (end < tape.size && tape.bytes[end] >= 'a' && tape.bytes[end] <= 'z') {
         end++;
       }
-    }
-
-    private void stepOverLetters() {
-      while (end < tape.size && isLetter(end)) {
+      if (end > start) return;
+      token = NUMBER;
+      while (end < tape.size && tape.bytes[end] >= '0' && tape.bytes[end] <= '9') {
         end++;
       }
-    }
-
-    private void stepOverDigits() {
-      value = 0;
-      while (end < tape.size && isDigit(end)) {
-        value = Math.min(MOST_NUMBER + 1, 10 * value + tape.bytes[end] - '0');
-        end++;
-      }
-    }
-
-    private boolean isLetter(int at) {
-      return isIn(tape.bytes[at], 'a', 'z');
-    }
-
-    private boolean isDigit(int at) {
-      return isIn(tape.bytes[at], '0', '9');
+      if (end > start) return;
+      token = END;
+      if (end >= tape.size) return;
+      token = tape.bytes[end] == ';' ? SEMICOLON : NO_TOKEN;
+      end++;
     }
   }
 }

@@ -30,6 +30,8 @@ public final class ImageTest {
     x.change(1, 6, 0);
     x.hold(2, 3);
     x.hold(5, 2);
+    x.change(2, 4, 1);
+    x.change(2, 6, 9);
     x.leans(9);
   }
 
@@ -59,6 +61,12 @@ public final class ImageTest {
     change(x);
     Due.is("it stays", x.undo(), 4);
     isAsKept(x);
+    Due.is("a new slip", x.slip(0, 1, 9), 2);
+    int[] fresh = {0, 1, 20, 5, 0, 9, 0};
+    for (int what = 0; what < fresh.length; what++) {
+      Due.is("trait " + what + " of a new slip", x.of(2, what), fresh[what]);
+    }
+    x.undo();
     x.go(3);
     Due.is("the latest", x.image(), 1);
     x.go(1);

@@ -144,6 +144,10 @@ public final class TextTest {
     fault("lean 0 0 0 0", 11);
     fault("lean up", 5);
     fault("ma", 0);
+    fault("lay", 0);
+    fault("mat", 0);
+    fault("leen 0 0 0", 0);
+    fault("may of 3", 4);
     fault("slippers", 0);
     fault("slippe", 0);
   }

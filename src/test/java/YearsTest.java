@@ -207,6 +207,22 @@ public final class YearsTest {
     Due.is("9999 can't", x.breaks(0), Due.NONE);
     Due.is("breaks -1", x.breaks(-1), Due.BEYOND);
     Due.is("breaks 2", x.breaks(2), Due.BEYOND);
+    brokenLate();
+  }
+
+  /** Found by trying: as the slip in 1 gets stronger, the latin loses the slipper that it covers in 201 years. */
+  private static void brokenLate() {
+    WordHedge x = Due.told("slipper in 2 words 1;latin words 12 high 27 up;slip in 1");
+    x.change(0, 3, 58);
+    x.change(1, 3, 23);
+    x.change(2, 3, 50);
+    Due.fill(x, 0, 159, 0, 238, 99, 194, 190);
+    Due.is("leanings", x.load(0), 6);
+    Due.is("201 years is too late", x.breaks(0), Due.NONE);
+    x.go(1);
+    Due.is("200 years is not", x.breaks(0), 200);
+    x.go(1);
+    Due.is("199 years then", x.breaks(0), 199);
   }
 
   private static void nothingChanges() {
@@ -230,7 +246,13 @@ public final class YearsTest {
     for (int i = 0; i < 1666; i++) {
       x.go(60);
     }
-    Due.is("39 years more", x.go(39), 65535 - 4);
+    Due.is("37 years more", x.go(37), 65535 - 4);
+    Due.is("3 are too many", x.go(3), Due.STATE);
+    Due.is("3 are too many draws", x.leans(3), Due.STATE);
+    x.image();
+    Due.is("2 years of draws", x.leans(2), 65535 - 4);
+    Due.is("undo", x.undo(), 99997);
+    Due.is("2 years more", x.go(2), 65535 - 4);
     Due.is("year", x.now(0), 99999);
     Due.is("go 1", x.go(1), Due.STATE);
     Due.is("go 60", x.go(60), Due.STATE);
@@ -241,6 +263,6 @@ public final class YearsTest {
     x.lean(99999 % 6, 5, 7);
     Due.is("no leaning", x.leaning(99999 % 6), 507);
     Due.is("year 99999 at most", x.ahead(0, 9, 1), 99 + 8);
-    Due.is("states", x.status(4), 3);
+    Due.is("states", x.status(4), 5);
   }
 }
