@@ -71,7 +71,6 @@ public final class WordHedge {
 
   private final Sheet[] sheets = new Sheet[SHEETS];
   private final Tape tape = new Tape();
-  private final TextReader reader = new TextReader(tape);
   private final int[] told = new int[FINDINGS];
 
   public WordHedge() {
@@ -342,7 +341,7 @@ public final class WordHedge {
 
   public int text() {
     trial.become(lane);
-    int items = reader.readText(trial);
+    int items = tape.readText(trial);
     if (items > 0) lane.become(trial);
     tape.size = 0;
     return items;
@@ -587,11 +586,12 @@ public final class WordHedge {
     return product;
   }
 
-  /** One slip; the kinds "as the kind above" stand beside it in the same case. */
+  /** One slip; a formula names what its kind takes over from the one above, as "asSlip". */
   private static final class Slip {
-    private static final int[] ABOVE = {-1, SLIP, SLIP, PROMISE, LATIN, SLIP, HAWTHORN};
-    private static final int[] LEAST = {0, 0, 0, 0, 0, 1, 0};
-    private static final int[] MOST = {MAY, PLACES - 1, 199, 99, TO_LESSER, 12, MOST_COUNTED};
+    private static final int DEEPEST_KIND = 3;
+    private static final int MOST_HIGH = 199;
+    private static final int MOST_THICK = 99;
+    private static final int MOST_WORDS = 12;
     private static final int FIRST_HIGH = 20;
     private static final int FIRST_THICK = 5;
 
@@ -604,11 +604,21 @@ public final class WordHedge {
     private int broke;
 
     static int least(int what) {
-      return isIn(what, OF_KIND, OF_BROKE) ? LEAST[what] : 0;
+      return what == OF_WORDS ? 1 : 0;
     }
 
+    /** What can't be changed has no value that may stand: its most is below its least. */
     static int most(int what) {
-      return isIn(what, OF_KIND, OF_BROKE) ? MOST[what] : -1;
+      switch (what) {
+        case OF_KIND: return MAY;
+        case OF_PLACE: return PLACES - 1;
+        case OF_HIGH: return MOST_HIGH;
+        case OF_THICK: return MOST_THICK;
+        case OF_LAID: return TO_LESSER;
+        case OF_WORDS: return MOST_WORDS;
+        case OF_BROKE: return MOST_COUNTED;
+        default: return -1;
+      }
     }
 
     static boolean allows(int what, int v) {
@@ -636,12 +646,20 @@ public final class WordHedge {
     }
 
     boolean isOne(int wanted) {
-      int above = kind;
-      for (int steps = 0; steps < ABOVE.length && isIn(above, SLIP, MAY); steps++) {
-        if (above == wanted) return true;
-        above = ABOVE[above];
+      int one = kind;
+      for (int steps = 0; steps < DEEPEST_KIND && one != wanted; steps++) {
+        one = kindAbove(one);
       }
-      return false;
+      return one == wanted;
+    }
+
+    private static int kindAbove(int kind) {
+      switch (kind) {
+        case LATIN: return PROMISE;
+        case ELEGY: return LATIN;
+        case MAY: return HAWTHORN;
+        default: return SLIP;
+      }
     }
 
     int reaches() {
@@ -748,8 +766,8 @@ public final class WordHedge {
     }
 
     void grow() {
-      high = Math.min(most(OF_HIGH), high + growth());
-      thick = Math.min(most(OF_THICK), thick + filling());
+      high = Math.min(MOST_HIGH, high + growth());
+      thick = Math.min(MOST_THICK, thick + filling());
     }
   }
 
@@ -940,19 +958,8 @@ public final class WordHedge {
     }
   }
 
+  /** Read token by token; where reading refuses, the token it stands at is the fault. */
   private static final class Tape {
-    private final byte[] bytes = new byte[MOST_BYTES];
-    private int size = 0;
-
-    void append(int v) {
-      if (size >= MOST_BYTES) return;
-      bytes[size] = (byte) v;
-      size++;
-    }
-  }
-
-  /** Reads the tape token by token; where it refuses, the token it stands at is the fault. */
-  private static final class TextReader {
     private static final int END = 0;
     private static final int WORD = 1;
     private static final int NUMBER = 2;
@@ -962,13 +969,16 @@ public final class WordHedge {
     private static final int MOST_NUMBER = 99999;
     private static final int FIRST_WORDS = 4;
 
-    private final Tape tape;
+    private final byte[] bytes = new byte[MOST_BYTES];
+    private int size = 0;
     private int token = END;
     private int start = 0;
     private int end = 0;
 
-    TextReader(Tape tape) {
-      this.tape = tape;
+    void append(int v) {
+      if (size >= MOST_BYTES) return;
+      bytes[size] = (byte) v;
+      size++;
     }
 
     /** How many items the lane got, or -1 less the fault (then the lane is half done). */
@@ -1051,8 +1061,8 @@ public final class WordHedge {
     /** A number above the most that may stand is one more digit at most: it can't wrap around. */
     private int numberTold() {
       int number = 0;
-      for (int i = start; i < end && i < tape.size && number <= MOST_NUMBER; i++) {
-        number = 10 * number + tape.bytes[i] - '0';
+      for (int i = start; i < end && i < size && number <= MOST_NUMBER; i++) {
+        number = 10 * number + bytes[i] - '0';
       }
       return number;
     }
@@ -1071,7 +1081,7 @@ public final class WordHedge {
     private boolean isWord(String word) {
       if (token != WORD || end - start != word.length()) return false;
       for (int i = 0; i < word.length(); i++) {
-        if (tape.bytes[start + i] != word.charAt(i)) return false;
+        if (bytes[start + i] != word.charAt(i)) return false;
       }
       return true;
     }
@@ -1079,23 +1089,23 @@ public final class WordHedge {
     /** The next token; one loop each, and no calls, as this is where the calls are deepest. */
     private void step() {
       start = end;
-      while (start < tape.size && tape.bytes[start] == ' ') {
+      while (start < size && bytes[start] == ' ') {
         start++;
       }
       end = start;
       token = WORD;
-      while (end < tape.size && tape.bytes[end] >= 'a' && tape.bytes[end] <= 'z') {
+      while (end < size && bytes[end] >= 'a' && bytes[end] <= 'z') {
         end++;
       }
       if (end > start) return;
       token = NUMBER;
-      while (end < tape.size && tape.bytes[end] >= '0' && tape.bytes[end] <= '9') {
+      while (end < size && bytes[end] >= '0' && bytes[end] <= '9') {
         end++;
       }
       if (end > start) return;
       token = END;
-      if (end >= tape.size) return;
-      token = tape.bytes[end] == ';' ? SEMICOLON : NO_TOKEN;
+      if (end >= size) return;
+      token = bytes[end] == ';' ? SEMICOLON : NO_TOKEN;
       end++;
     }
   }
