@@ -113,6 +113,13 @@ public final class LayTest {
     Due.is("no slips", y.layAll(0), Due.NONE);
     y.hurdles(65535);
     Due.is("no slips, all hurdles", y.layAll(0), 0);
+    WordHedge z = new WordHedge();
+    for (int i = 0; i < 8; i++) {
+      z.slip(6, 2 * i, 1);
+    }
+    Due.is("all eight", z.layAll(0), 255);
+    z.hurdles(1 << 9);
+    Due.is("all but one", z.layAll(0), 255 - 16);
   }
 
   private static void hurdlesFor() {

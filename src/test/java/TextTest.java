@@ -146,6 +146,8 @@ public final class TextTest {
     fault("ma", 0);
     fault("lay", 0);
     fault("mat", 0);
+    fault("mayz", 0);
+    fault("maya", 0);
     fault("leen 0 0 0", 0);
     fault("may of 3", 4);
     fault("slippers", 0);

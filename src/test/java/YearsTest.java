@@ -113,6 +113,10 @@ public final class YearsTest {
     Due.is("the weakest is a gap", x.now(4), 0);
     x.hurdles(65535 - 4);
     Due.is("the weakest is covered", x.now(4), 2);
+    x.hurdles(65535 - 2 - 8);
+    x.change(2, 3, 0);
+    x.change(2, 1, 3);
+    Due.is("of a gap and a weak one the least", x.now(4), 1);
     x.hurdles(65535);
     Due.is("of several the least", x.now(4), 0);
     Due.is("now -1", x.now(-1), Due.BEYOND);
