@@ -9,13 +9,22 @@ final class Due {
   static final int SIZE = -1000007;
 
   private static int wrong = 0;
+  private static String sentence = "";
 
   private Due() {}
 
+  /** What is asked from here on is what this sentence of the document says. */
+  static void ofSentence(String told) {
+    sentence = " (\"" + told + "\")";
+  }
+
   static void is(String call, long got, long want) {
-    if (got == want) return;
+    if (got != want) wrong(call + " answered " + got + ", due is " + want);
+  }
+
+  static void wrong(String what) {
     wrong++;
-    System.out.println(call + " answered " + got + ", due is " + want);
+    System.out.println(what + sentence);
   }
 
   static void end() {
@@ -23,9 +32,15 @@ final class Due {
     if (wrong != 0) System.exit(1);
   }
 
+  /** Four bytes a call, so that a text leaves many of the 512 calls. */
   static void feed(WordHedge x, String text) {
-    for (int i = 0; i < text.length(); i++) {
-      x.feed(text.charAt(i), 1);
+    for (int i = 0; i < text.length(); i += 4) {
+      int n = Math.min(4, text.length() - i);
+      int bytes = 0;
+      for (int k = 0; k < n; k++) {
+        bytes = bytes << 8 | text.charAt(i + k);
+      }
+      x.feed(bytes, n);
     }
   }
 
@@ -43,9 +58,26 @@ final class Due {
 
   /** Sheet s becomes one of 32 bits with these numbers. */
   static void fill(WordHedge x, int s, int... numbers) {
-    x.sheet(s, 32, numbers.length);
+    fillBits(x, s, 32, numbers);
+  }
+
+  static void fillBits(WordHedge x, int s, int bits, int... numbers) {
+    x.sheet(s, bits, numbers.length);
     for (int i = 0; i < numbers.length; i++) {
       x.write(s, i, numbers[i]);
+    }
+  }
+
+  static void traits(WordHedge x, String name, int slip, int... due) {
+    for (int what = 0; what < due.length; what++) {
+      is(name + ", trait " + what, x.of(slip, what), due[what]);
+    }
+  }
+
+  /** A year that no 512 calls reach: what is asked there is what the words say of YEAR 99999. */
+  static void goTo(WordHedge x, int year) {
+    while (x.now(0) < year) {
+      x.go(Math.min(60, year - x.now(0)));
     }
   }
 }

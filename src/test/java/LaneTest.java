@@ -1,231 +1,341 @@
-/** Promises 1 to 9: a new object, the lane and its slips. */
+/** Promises 1 to 9, sentence by sentence: a new object, the lane and its slips. */
 public final class LaneTest {
   public static void main(String[] args) {
+    Doc.promise(1);
     newObject();
+    newWithoutSlips();
+    newTape();
+    newImage();
+    Doc.promise(2);
     hurdles();
-    place();
+    hurdlesBeyond();
+    Doc.promise(3);
+    placeStrength();
+    placeSlipsIn();
+    placeCoverers();
+    placeGap();
+    placeBeyond();
+    Doc.promise(4);
     lean();
+    leanBeyond();
+    Doc.promise(5);
+    leaning();
+    leaningBeyond();
+    Doc.promise(6);
     slip();
-    reaches();
-    covers();
-    strong();
-    grows();
-    fills();
+    slipBeyond();
+    slipFull();
+    Doc.promise(7);
     of();
+    ofBeyond();
+    Doc.promise(8);
     change();
+    changeBeyond();
+    Doc.promise(9);
     cut();
-    Due.end();
+    cutBeyond();
+    Doc.end();
   }
 
   private static void newObject() {
+    Doc.says("All as at first;");
     WordHedge x = new WordHedge();
     for (int what = 0; what <= 7; what++) {
-      Due.is("new: count " + what, x.count(what), what == 2 ? 16 : what == 6 ? 1 : 0);
-      if (what != 1) Due.is("new: now " + what, x.now(what), 0);
+      Due.is("count " + what, x.count(what), what == 2 ? 16 : what == 6 ? 1 : 0);
+      Due.is("now " + what, x.now(what), what == 1 ? 65535 : 0);
     }
-    Due.is("new: gaps", x.now(1), 65535);
+    for (int place = 0; place < 16; place++) {
+      Due.is("strength of " + place, x.place(place, 0), 0);
+      Due.is("gap in " + place, x.place(place, 3), 1);
+    }
     for (int i = 0; i < 6; i++) {
-      Due.is("new: leaning " + i, x.leaning(i), 0);
+      Due.is("leaning " + i, x.leaning(i), 0);
+    }
+    for (int which = -1; which <= 6; which++) {
+      Due.is("status " + which, x.status(which), 0);
     }
     for (int spot = 0; spot < 10; spot++) {
-      Due.is("new: spot " + spot, x.as(spot, 0), Due.MISSING);
+      Due.is("spot " + spot, x.as(spot, 0), Due.MISSING);
     }
     for (int s = 0; s < 4; s++) {
-      Due.is("new: sheet " + s, x.judge(s), Due.MISSING);
+      Due.is("sheet " + s, x.judge(s), Due.MISSING);
     }
-    Due.is("new: wipe", x.wipe(), 0);
-    Due.is("new: undo", x.undo(), Due.NONE);
-    Due.is("new: tear", x.tear(), 0);
+  }
+
+  private static void newWithoutSlips() {
+    Doc.says("no SLIPS;");
+    WordHedge x = new WordHedge();
+    Due.is("slips", x.count(1), 0);
+    Due.is("slip 0", x.of(0, 0), Due.BEYOND);
+    Due.is("slips in 0", x.place(0, 1), 0);
+    Due.is("slips over 0", x.place(0, 2), 0);
+    Due.is("the first", x.slip(0, 0, 1), 0);
+  }
+
+  private static void newTape() {
+    Doc.says("THE TAPE is empty,");
+    WordHedge x = new WordHedge();
+    Due.is("bytes", x.count(5), 0);
+    Due.is("wipe", x.wipe(), 0);
+    Due.is("text", x.text(), -1);
+    Due.is("feed", x.feed('a', 1), 1);
+  }
+
+  private static void newImage() {
+    Doc.says("no image is kept.");
+    WordHedge x = new WordHedge();
+    Due.is("undo", x.undo(), Due.NONE);
+    Due.is("tear", x.tear(), 0);
   }
 
   private static void hurdles() {
+    Doc.says("HURDLES become a set of PLACES: what they were.");
     WordHedge x = new WordHedge();
     Due.is("hurdles 5", x.hurdles(5), 0);
-    Due.is("hurdles 65535", x.hurdles(65535), 5);
-    Due.is("hurdles -1", x.hurdles(-1), Due.BEYOND);
-    Due.is("hurdles 65536", x.hurdles(65536), Due.BEYOND);
-    Due.is("hurdles 0", x.hurdles(0), 65535);
-    Due.is("hurdles as they are", x.now(3), 0);
+    Due.is("all hurdles", x.hurdles(65535), 5);
+    for (int place = 0; place < 16; place++) {
+      Due.is("strength of " + place, x.place(place, 0), 40);
+    }
+    Due.is("no hurdles", x.hurdles(0), 65535);
+    Due.is("none", x.now(3), 0);
+    Due.is("the last place", x.hurdles(32768), 0);
+    Due.is("strength of 15", x.place(15, 0), 40);
+    Due.is("strength of 14", x.place(14, 0), 0);
+    Due.is("the first place", x.hurdles(1), 32768);
+    Due.is("strength of 0", x.place(0, 0), 40);
+    Due.is("strength of 1", x.place(1, 0), 0);
+    Due.is("as they are", x.hurdles(1), 1);
   }
 
-  private static void place() {
-    WordHedge x = Due.told("slip in 3 high 80 up;promise in 5;slip in 5 high 40 down;hurdles 33");
-    Due.is("strength of 0", x.place(0, 0), 40);
-    Due.is("strength of 3", x.place(3, 0), 5);
-    Due.is("strength of 4", x.place(4, 0), 10);
-    Due.is("strength of 5", x.place(5, 0), 40 + 5 + 15 + 5);
-    Due.is("slips in 5", x.place(5, 1), 6);
-    Due.is("slips in 4", x.place(4, 1), 0);
-    Due.is("slips over 4", x.place(4, 2), 5);
-    Due.is("slips over 5", x.place(5, 2), 7);
-    Due.is("slips over 6", x.place(6, 2), 0);
-    Due.is("a hurdle is no gap", x.place(0, 3), 0);
-    Due.is("a covered one is no gap", x.place(4, 3), 0);
-    Due.is("gap 6", x.place(6, 3), 1);
-    Due.is("gap 15", x.place(15, 3), 1);
-    Due.is("place -1", x.place(-1, 0), Due.BEYOND);
-    Due.is("place 16", x.place(16, 0), Due.BEYOND);
-    Due.is("what -1", x.place(0, -1), Due.BEYOND);
-    Due.is("what 4", x.place(0, 4), Due.BEYOND);
+  private static void hurdlesBeyond() {
+    Doc.says("BEYOND.");
+    Edge.range("hurdles", 0, 65535, (x, v) -> x.hurdles(v));
+  }
+
+  private static WordHedge lane() {
+    return Due.told("slip in 3 high 80 up;promise in 5;slip in 5 high 40 down;hurdles 33");
+  }
+
+  private static void isPlaced(WordHedge x, int what, int... due) {
+    for (int place = 0; place < due.length; place++) {
+      Due.is("place " + place + ", what " + what, x.place(place, what), due[place]);
+    }
+  }
+
+  private static void placeStrength() {
+    Doc.says("Of a PLACE: what 0 STRENGTH,");
+    isPlaced(lane(), 0, 40, 0, 0, 5, 5 + 5, 40 + 5 + 15 + 5, 0, 0, 0, 0, 0, 0, 0, 0, 0, 0);
+    isPlaced(Due.told("slip in 15;slip in 15;slip in 0"), 0, 5, 0, 0, 0, 0, 0, 0, 0, 0, 0, 0, 0, 0, 0, 0, 10);
+  }
+
+  private static void placeSlipsIn() {
+    Doc.says("1 SLIPS IN it, as a set,");
+    isPlaced(lane(), 1, 0, 0, 0, 1, 0, 6, 0, 0, 0, 0, 0, 0, 0, 0, 0, 0);
+    WordHedge x = new WordHedge();
+    for (int i = 0; i < 8; i++) {
+      x.slip(0, 15, 1);
+    }
+    Due.is("all eight", x.place(15, 1), 255);
+    x.change(7, 1, 0);
+    Due.is("the eighth", x.place(0, 1), 128);
+    Due.is("all others", x.place(15, 1), 127);
+  }
+
+  private static void placeCoverers() {
+    Doc.says("2 SLIPS that COVER it, as a set,");
+    isPlaced(lane(), 2, 0, 0, 0, 1, 1 + 4, 1 + 2 + 4, 0, 0, 0, 0, 0, 0, 0, 0, 0, 0);
+    WordHedge x = new WordHedge();
+    for (int i = 0; i < 8; i++) {
+      x.slip(3, 8 + i, 1);
+      x.change(i, 2, 199);
+      x.change(i, 4, 2);
+    }
+    Due.is("all eight, of 7 places beside it", x.place(8, 2), 255);
+    Due.is("all but the last", x.place(7, 2), 255);
+    Due.is("7 of these", x.place(6, 2), 127);
+    Due.is("the first, of the begin", x.place(0, 2), 1);
+    Due.is("the last, of the end", x.place(15, 2), 128);
+  }
+
+  private static void placeGap() {
+    Doc.says("3 whether it is a GAP (1, 0).");
+    isPlaced(lane(), 3, 0, 1, 1, 0, 0, 0, 1, 1, 1, 1, 1, 1, 1, 1, 1, 1);
+    WordHedge x = Due.told("slip in 15");
+    x.change(0, 3, 0);
+    Due.is("covered by no strength", x.place(15, 3), 0);
+    Due.is("beside it", x.place(14, 3), 1);
+  }
+
+  private static void placeBeyond() {
+    Doc.says("BEYOND.");
+    for (int what = 0; what <= 3; what++) {
+      int asked = what;
+      Edge.range("place, what " + what, 0, 15, (x, v) -> x.place(v, asked));
+    }
+    Edge.range("what of place", 0, 3, (x, v) -> x.place(15, v));
   }
 
   private static void lean() {
+    Doc.says("THE LIST tells in place i (0 to 5) a LEANING AT a PLACE with a WEIGHT (0 to 99): "
+        + "which it was (100 * PLACE and WEIGHT).");
     WordHedge x = new WordHedge();
     Due.is("lean 0 15 99", x.lean(0, 15, 99), 0);
     Due.is("lean 5 1 2", x.lean(5, 1, 2), 0);
-    Due.is("leaning 0", x.leaning(0), 1599);
-    Due.is("leaning 5", x.leaning(5), 102);
+    int[] due = {1599, 0, 0, 0, 0, 102};
+    for (int i = 0; i < 6; i++) {
+      Due.is("leaning " + i, x.leaning(i), due[i]);
+    }
     Due.is("lean 0 0 0", x.lean(0, 0, 0), 1599);
-    Due.is("leaning 0 then", x.leaning(0), 0);
-    Due.is("lean -1", x.lean(-1, 0, 0), Due.BEYOND);
-    Due.is("lean 6", x.lean(6, 0, 0), Due.BEYOND);
-    Due.is("lean at -1", x.lean(5, -1, 0), Due.BEYOND);
-    Due.is("lean at 16", x.lean(5, 16, 0), Due.BEYOND);
-    Due.is("lean of -1", x.lean(5, 0, -1), Due.BEYOND);
-    Due.is("lean of 100", x.lean(5, 0, 100), Due.BEYOND);
-    Due.is("leaning 5 then", x.leaning(5), 102);
-    Due.is("leaning -1", x.leaning(-1), Due.BEYOND);
-    Due.is("leaning 6", x.leaning(6), Due.BEYOND);
+    Due.is("lean 0 0 99", x.lean(0, 0, 99), 0);
+    Due.is("lean 0 1 0", x.lean(0, 1, 0), 99);
+    Due.is("lean 0 1 0 again", x.lean(0, 1, 0), 100);
+    Due.is("lean 5 15 0", x.lean(5, 15, 0), 102);
+    Due.is("leaning 5", x.leaning(5), 1500);
+  }
+
+  private static void leanBeyond() {
+    Doc.says("BEYOND.");
+    Edge.range("place of the list", 0, 5, (x, v) -> x.lean(v, 1, 1));
+    Edge.range("place of a leaning", 0, 15, (x, v) -> x.lean(5, v, 1));
+    Edge.range("weight", 0, 99, (x, v) -> x.lean(5, 15, v));
+  }
+
+  private static void leaning() {
+    Doc.says("The LEANING in a place of THE LIST.");
+    WordHedge x = new WordHedge();
+    for (int i = 0; i < 6; i++) {
+      x.lean(i, 15 - i, i * 19);
+    }
+    for (int i = 0; i < 6; i++) {
+      Due.is("leaning " + i, x.leaning(i), 100 * (15 - i) + 19 * i);
+    }
+    Edge.changesNothing("leaning", y -> y.leaning(5));
+  }
+
+  private static void leaningBeyond() {
+    Doc.says("BEYOND.");
+    Edge.range("place of the list", 0, 5, (x, v) -> x.leaning(v));
   }
 
   private static void slip() {
+    Doc.says("A new SLIP IN a PLACE, of so many WORDS: its number.");
     WordHedge x = new WordHedge();
-    Due.is("kind -1", x.slip(-1, 0, 1), Due.BEYOND);
-    Due.is("kind 7", x.slip(7, 0, 1), Due.BEYOND);
-    Due.is("place -1", x.slip(0, -1, 1), Due.BEYOND);
-    Due.is("place 16", x.slip(0, 16, 1), Due.BEYOND);
-    Due.is("no words", x.slip(0, 0, 0), Due.BEYOND);
-    Due.is("13 words", x.slip(0, 0, 13), Due.BEYOND);
-    Due.is("no slip yet", x.count(1), 0);
     for (int i = 0; i < 8; i++) {
       Due.is("slip " + i, x.slip(i % 7, 15 - i, 12 - i), i);
     }
-    Due.is("a 9th", x.slip(0, 0, 1), Due.FULL);
-    Due.is("a 9th that is none", x.slip(0, 0, 13), Due.BEYOND);
-    Due.is("eight", x.count(1), 8);
-    int[] first = {6, 9, 20, 5, 0, 6, 0};
-    for (int what = 0; what < first.length; what++) {
-      Due.is("trait " + what + " of slip 6", x.of(6, what), first[what]);
+    for (int i = 0; i < 8; i++) {
+      Due.traits(x, "slip " + i, i, i % 7, 15 - i, 20, 5, 0, 12 - i, 0);
     }
+    x = Due.told("slip in 3 high 7 up");
+    Due.is("behind one of a text", x.slip(6, 0, 1), 1);
+    Due.traits(x, "the least words", 1, 6, 0, 20, 5, 0, 1, 0);
   }
 
-  /** Slip 0 becomes a high one of each kind in turn; what is asked of it must be as told, by kind. */
-  private static void byKind(WordHedge x, String name, int what, int... due) {
-    for (int kind = 0; kind < due.length; kind++) {
-      x.change(0, 0, kind);
-      Due.is(name + " of kind " + kind, x.of(0, what), due[kind]);
+  private static void slipBeyond() {
+    Doc.says("BEYOND.");
+    Edge.range("kind", 0, 6, (x, v) -> x.slip(v, 15, 12));
+    Edge.range("place", 0, 15, (x, v) -> x.slip(6, v, 12));
+    Edge.range("words", 1, 12, (x, v) -> x.slip(6, 15, v));
+    Edge.refused("no kind when there are eight", Due.BEYOND, Edge::withEightSlips, x -> x.slip(-1, 0, 1));
+    Edge.refused("no place when there are eight", Due.BEYOND, Edge::withEightSlips, x -> x.slip(0, 16, 1));
+    Edge.refused("no words when there are eight", Due.BEYOND, Edge::withEightSlips, x -> x.slip(0, 0, 13));
+  }
+
+  private static void slipFull() {
+    Doc.says("FULL.");
+    WordHedge x = new WordHedge();
+    for (int i = 0; i < 7; i++) {
+      x.slip(0, 0, 1);
     }
-  }
-
-  private static void reaches() {
-    WordHedge x = Due.told("slip words 4 high 119 up");
-    byKind(x, "reach, 4 words", 7, 2, 3, 2, 4, 3, 0, 3);
-    x.change(0, 5, 5);
-    byKind(x, "reach, 5 words", 7, 2, 2, 2, 4, 3, 0, 2);
-    x.change(0, 4, 0);
-    byKind(x, "reach, upright", 7, 2, 2, 2, 4, 3, 0, 2);
-    x.change(0, 2, 39);
-    byKind(x, "reach, low", 7, 0, 0, 0, 0, 0, 0, 0);
-    x.change(0, 2, 40);
-    byKind(x, "reach, 40 high", 7, 1, 1, 1, 2, 1, 0, 1);
-  }
-
-  private static void covers() {
-    WordHedge x = Due.told("slip in 3 high 80;slip in 3 high 80 up;slip in 3 high 80 down");
-    Due.read(x, "latin in 14 high 199 up;elegy in 1 high 199 down;slipper in 7 high 199 up");
-    Due.is("upright", x.of(0, 8), 8);
-    Due.is("up", x.of(1, 8), 8 + 16 + 32);
-    Due.is("down", x.of(2, 8), 8 + 4 + 2);
-    Due.is("over the end", x.of(3, 8), (1 << 14) + (1 << 15));
-    Due.is("over the begin", x.of(4, 8), 3);
-    Due.is("reaching none", x.of(5, 8), 128);
-    x.change(1, 1, 15);
-    Due.is("at the end", x.of(1, 8), 1 << 15);
-    x.change(2, 1, 0);
-    Due.is("at the begin", x.of(2, 8), 1);
-  }
-
-  private static void strong() {
-    WordHedge x = Due.told("slip words 3 high 104");
-    x.change(0, 3, 21);
-    byKind(x, "strong, upright", 9, 21, 30, 31, 31, 51, 10, 35);
-    x.change(0, 4, 1);
-    byKind(x, "strong, up", 9, 21, 30, 21, 21, 41, 10, 35);
-    x.change(0, 4, 2);
-    byKind(x, "strong, down", 9, 21, 30, 21, 21, 41, 10, 35);
-    for (int year = 1; year <= 5; year++) {
-      x.go(1);
-      x.change(0, 3, 21);
-      Due.is("may in year " + year, x.of(0, 9), year == 5 ? 35 : 30);
-    }
-  }
-
-  private static void grows() {
-    WordHedge x = Due.told("slip words 5");
-    byKind(x, "grows, upright", 10, 12, 7, 12, 17, 8, 3, 11);
-    x.change(0, 4, 1);
-    byKind(x, "grows, up", 10, 12, 7, 6, 11, 5, 3, 11);
-    x.change(0, 4, 2);
-    byKind(x, "grows, down", 10, 12, 7, 6, 11, 5, 3, 11);
-    x.change(0, 5, 12);
-    byKind(x, "grows, 12 words", 10, 12, 0, 6, 18, 9, 3, 4);
-  }
-
-  private static void fills() {
-    WordHedge x = Due.told("slip");
-    byKind(x, "fills, upright", 11, 1, 2, 1, 1, 1, 0, 2);
-    x.change(0, 4, 1);
-    byKind(x, "fills, up", 11, 3, 4, 3, 3, 3, 0, 4);
-    x.change(0, 4, 2);
-    byKind(x, "fills, down", 11, 3, 4, 3, 3, 3, 0, 4);
+    Due.is("the 8th", x.slip(0, 0, 1), 7);
+    Due.is("the 9th", x.slip(0, 0, 1), Due.FULL);
+    Edge.refused("a 9th", Due.FULL, Edge::withEightSlips, y -> y.slip(6, 15, 12));
   }
 
   private static void of() {
+    Doc.says("Of a SLIP: what 0 KIND, 1 PLACE, 2 HIGH, 3 THICK, 4 LAID, 5 WORDS, 6 BROKE, 7 REACHES, "
+        + "8 COVERS, as a set, 9 STRONG, 10 GROWS, 11 FILLS.");
     WordHedge x = Due.told("slip;may in 4 words 2 high 100 down");
     x.change(1, 6, 7);
-    int[] due = {6, 4, 100, 5, 2, 2, 7, 3, 2 + 4 + 8 + 16, 20, 14, 4};
-    for (int what = 0; what < due.length; what++) {
-      Due.is("of 1, " + what, x.of(1, what), due[what]);
-    }
-    Due.is("of 1, -1", x.of(1, -1), Due.BEYOND);
-    Due.is("of 1, 12", x.of(1, 12), Due.BEYOND);
-    Due.is("of -1", x.of(-1, 0), Due.BEYOND);
-    Due.is("of 2", x.of(2, 0), Due.BEYOND);
-    Due.is("of 8", x.of(8, 0), Due.BEYOND);
+    Due.traits(x, "a may", 1, 6, 4, 100, 5, 2, 2, 7, 3, 2 + 4 + 8 + 16, 20, 14, 4);
+    Due.traits(x, "a slip", 0, 0, 0, 20, 5, 0, 4, 0, 0, 1, 5, 12, 1);
+    x.change(0, 2, 199);
+    Due.is("upright, it reaches as if it were laid", x.of(0, 7), 4);
+    Due.is("upright, it covers its place", x.of(0, 8), 1);
+    WordHedge eight = Edge.withEightSlips();
+    Due.is("the eighth", eight.of(7, 1), 14);
+    Edge.changesNothing("of", y -> y.of(2, 11));
+  }
+
+  private static void ofBeyond() {
+    Doc.says("BEYOND.");
+    Edge.range("slip", 0, 2, (x, v) -> x.of(v, 0));
+    Edge.range("what", 0, 11, (x, v) -> x.of(2, v));
+    Edge.range("slip of eight", 0, 7, Edge::withEightSlips, (x, v) -> x.of(v, 11));
+    Edge.refused("what 12 of slip 8", Due.BEYOND, Edge::withEightSlips, x -> x.of(8, 12));
+    Edge.refused("slip 0 of none", Due.BEYOND, WordHedge::new, x -> x.of(0, 0));
   }
 
   private static void change() {
+    Doc.says("KIND (what 0), PLACE (1), HIGH (2), THICK (3), LAID (4), WORDS (5), BROKE (6) of a SLIP becomes v: what it was.");
     WordHedge x = Due.told("slip;slip");
     int[] first = {0, 0, 20, 5, 0, 4, 0};
     int[] least = {0, 0, 0, 0, 0, 1, 0};
     int[] most = {6, 15, 199, 99, 2, 12, 9999};
-    for (int what = 0; what < most.length; what++) {
+    for (int what = 0; what < 7; what++) {
       Due.is("change " + what + " to the most", x.change(1, what, most[what]), first[what]);
-      Due.is("change " + what + " above it", x.change(1, what, most[what] + 1), Due.BEYOND);
       Due.is("changed " + what, x.of(1, what), most[what]);
-      Due.is("change " + what + " to the least", x.change(1, what, least[what]), most[what]);
-      Due.is("change " + what + " below it", x.change(1, what, least[what] - 1), Due.BEYOND);
-      Due.is("changed " + what + " then", x.of(1, what), least[what]);
       Due.is("the other's " + what, x.of(0, what), first[what]);
     }
-    Due.is("change -1", x.change(1, -1, 0), Due.BEYOND);
-    Due.is("change 7", x.change(1, 7, 0), Due.BEYOND);
-    Due.is("change of -1", x.change(-1, 0, 0), Due.BEYOND);
-    Due.is("change of 2", x.change(2, 0, 0), Due.BEYOND);
+    Due.traits(x, "all at the most", 1, most);
+    for (int what = 0; what < 7; what++) {
+      Due.is("change " + what + " to the least", x.change(1, what, least[what]), most[what]);
+      Due.is("changed " + what + " then", x.of(1, what), least[what]);
+      Due.is("as it is " + what, x.change(1, what, least[what]), least[what]);
+    }
+    Due.traits(x, "all at the least", 1, least);
+    Due.traits(x, "the other", 0, first);
+  }
+
+  private static void changeBeyond() {
+    Doc.says("BEYOND.");
+    Edge.range("kind", 0, 6, (x, v) -> x.change(2, 0, v));
+    Edge.range("place", 0, 15, (x, v) -> x.change(2, 1, v));
+    Edge.range("high", 0, 199, (x, v) -> x.change(2, 2, v));
+    Edge.range("thick", 0, 99, (x, v) -> x.change(2, 3, v));
+    Edge.range("laid", 0, 2, (x, v) -> x.change(2, 4, v));
+    Edge.range("words", 1, 12, (x, v) -> x.change(2, 5, v));
+    Edge.range("broke", 0, 9999, (x, v) -> x.change(2, 6, v));
+    Edge.range("what", 0, 6, (x, v) -> x.change(2, v, 1));
+    for (int what = 7; what <= 12; what++) {
+      int asked = what;
+      Edge.refused("what " + what + " becomes 0", Due.BEYOND, x -> x.change(2, asked, 0));
+      Edge.refused("what " + what + " becomes -1", Due.BEYOND, x -> x.change(2, asked, -1));
+    }
+    Edge.range("slip", 0, 2, (x, v) -> x.change(v, 1, 1));
+    Edge.range("slip of eight", 0, 7, Edge::withEightSlips, (x, v) -> x.change(v, 1, 1));
   }
 
   private static void cut() {
+    Doc.says("A SLIP is cut to HIGH v (0 to 199), if it is higher: by how much.");
     WordHedge x = Due.told("slip;slip high 199");
-    Due.is("cut to 199", x.cut(1, 199), 0);
-    Due.is("cut to 30", x.cut(1, 30), 169);
-    Due.is("cut to 31", x.cut(1, 31), 0);
-    Due.is("is 30", x.of(1, 2), 30);
-    Due.is("cut to 0", x.cut(1, 0), 30);
-    Due.is("is 0", x.of(1, 2), 0);
+    Due.is("199 to 199", x.cut(1, 199), 0);
+    Due.is("199 to 198", x.cut(1, 198), 1);
+    Due.is("198 to 30", x.cut(1, 30), 168);
+    Due.is("30 to 31", x.cut(1, 31), 0);
+    Due.is("30 stays", x.of(1, 2), 30);
+    Due.is("30 to 30", x.cut(1, 30), 0);
+    Due.is("30 to 199", x.cut(1, 199), 0);
+    Due.is("30 to 0", x.cut(1, 0), 30);
+    Due.is("0 to 0", x.cut(1, 0), 0);
+    Due.traits(x, "only high", 1, 0, 0, 0, 5, 0, 4, 0);
     Due.is("the other", x.of(0, 2), 20);
-    Due.is("cut to 200", x.cut(1, 200), Due.BEYOND);
-    Due.is("cut to -1", x.cut(1, -1), Due.BEYOND);
-    Due.is("cut -1", x.cut(-1, 0), Due.BEYOND);
-    Due.is("cut 2", x.cut(2, 0), Due.BEYOND);
+  }
+
+  private static void cutBeyond() {
+    Doc.says("BEYOND.");
+    Edge.range("slip", 0, 2, (x, v) -> x.cut(v, 1));
+    Edge.range("high", 0, 199, (x, v) -> x.cut(2, v));
+    Edge.range("slip of eight", 0, 7, Edge::withEightSlips, (x, v) -> x.cut(v, 1));
   }
 }
