@@ -76,8 +76,9 @@ final class Due {
 
   /** A year that no 512 calls reach: what is asked there is what the words say of YEAR 99999. */
   static void goTo(WordHedge x, int year) {
-    while (x.now(0) < year) {
+    for (int i = 0; i < 2000 && x.now(0) < year; i++) {
       x.go(Math.min(60, year - x.now(0)));
     }
+    is("year gone to", x.now(0), year);
   }
 }

@@ -127,6 +127,10 @@ public final class LayTest {
     z.change(0, 3, 99);
     z.change(1, 5, 2);
     Due.is("its own place counts", z.kindFor(1, 0), 6);
+    WordHedge held = Due.told("slip in 4 words 12 high 40 up;slip in 6 high 80 down;lean 0 6 52");
+    held.change(1, 3, 50);
+    Due.is("now an elegy is the strongest", held.kindFor(0, 0), 4);
+    Due.is("in a year a latin, which holds 6 and so the other one", held.kindFor(0, 1), 3);
   }
 
   private static void kindForBeyond() {

@@ -503,6 +503,23 @@ public final class TermsTest {
       Due.is("3 breaks: broke of slip " + i, y.of(i, 6), broke[i]);
       Due.is("3 breaks: high of slip " + i, y.of(i, 2), high[i]);
     }
+    allEightGiveWay();
+  }
+
+  private static void allEightGiveWay() {
+    WordHedge x = Edge.withEightSlips();
+    for (int i = 0; i < 8; i++) {
+      x.change(i, 0, 5);
+      x.change(i, 1, 15);
+      x.change(i, 2, 11 + i);
+    }
+    x.lean(0, 15, 99);
+    x.go(1);
+    for (int i = 0; i < 8; i++) {
+      Due.is("broke of slip " + i + " of eight", x.of(i, 6), 1);
+      Due.is("high of slip " + i + " of eight", x.of(i, 2), (11 + i) / 2 + 3);
+      Due.is("thick of slip " + i + " of eight", x.of(i, 3), 0);
+    }
   }
 
   private static void gapsMadeMore() {
