@@ -16,7 +16,8 @@ final class Edge {
 
   /** A hedge that has some of everything: slips 0 to 2, sheets 0 to 2, two spots, an image, three bytes of tape. */
   static WordHedge full() {
-    WordHedge x = Due.told("slip in 3 high 80 up;may in 5 words 2 high 60 down;elegy in 9 high 30;hurdles 6;lean 2 3 4");
+    WordHedge x = Due.told("slip in 3 high 80 up;may in 5 words 2 high 60 down;elegy in 9 high 30;"
+        + "hurdles 6;lean 2 3 4");
     x.lean(4, 9, 99);
     x.go(3);
     x.change(1, 6, 7);

@@ -148,8 +148,8 @@ public final class ImageTest {
   }
 
   private static void count() {
-    Doc.says("0 YEAR, 1 SLIPS, 2 how many GAPS there are, 3 GAPS MADE, 4 BROKE of all together, 5 bytes of THE TAPE, 6 z, "
-        + "7 SPOTS that hold something.");
+    Doc.says("0 YEAR, 1 SLIPS, 2 how many GAPS there are, 3 GAPS MADE, 4 BROKE of all together, "
+        + "5 bytes of THE TAPE, 6 z, 7 SPOTS that hold something.");
     WordHedge x = lane();
     x.lean(4, 9, 9);
     x.hold(7, 0);
@@ -174,7 +174,8 @@ public final class ImageTest {
   }
 
   private static void status() {
-    Doc.says("How many acts answered a finding ever (undo() takes none back): which -1: all, 0 to 6: BEYOND to SIZE.");
+    Doc.says("How many acts answered a finding ever (undo() takes none back): "
+        + "which -1: all, 0 to 6: BEYOND to SIZE.");
     WordHedge x = Due.told("may;may;may;may;may;may;may;may");
     for (int which = -1; which <= 6; which++) {
       Due.is("none of " + which, x.status(which), 0);

@@ -277,7 +277,8 @@ public final class LaneTest {
   }
 
   private static void change() {
-    Doc.says("KIND (what 0), PLACE (1), HIGH (2), THICK (3), LAID (4), WORDS (5), BROKE (6) of a SLIP becomes v: what it was.");
+    Doc.says("KIND (what 0), PLACE (1), HIGH (2), THICK (3), LAID (4), WORDS (5), "
+        + "BROKE (6) of a SLIP becomes v: what it was.");
     WordHedge x = Due.told("slip;slip");
     int[] first = {0, 0, 20, 5, 0, 4, 0};
     int[] least = {0, 0, 0, 0, 0, 1, 0};

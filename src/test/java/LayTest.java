@@ -119,7 +119,8 @@ public final class LayTest {
     Due.is("a may in year 5", x.kindFor(0, 5), 6);
     Due.is("an elegy in 60 years", x.kindFor(0, 60), 4);
     Due.is("kind as it was", x.of(0, 0), 0);
-    WordHedge y = Due.told("hawthorn in 15 words 1 high 0;lean 0 15 99;lean 1 15 99;lean 2 15 99;lean 3 15 99;lean 4 15 99");
+    WordHedge y = Due.told("hawthorn in 15 words 1 high 0;"
+        + "lean 0 15 99;lean 1 15 99;lean 2 15 99;lean 3 15 99;lean 4 15 99");
     y.lean(5, 15, 99);
     Due.is("where it breaks each year, hawthorn and may do in 59", y.kindFor(0, 59), 1);
     Due.is("a may does in 60", y.kindFor(0, 60), 6);

@@ -153,7 +153,8 @@ public final class SheetTest {
       Due.is("write " + row[1], x.write(0, 1, row[1]), 1);
       isSheet(x, 0, 0, row[2]);
     }
-    int[][] below0 = {{8, 128}, {8, 255}, {8, -1}, {16, 32768}, {16, 65535}, {16, -1}, {32, -1}, {32, Integer.MIN_VALUE}};
+    int[][] below0 = {{8, 128}, {8, 255}, {8, -1}, {16, 32768}, {16, 65535}, {16, -1}, {32, -1},
+        {32, Integer.MIN_VALUE}};
     for (int[] row : below0) {
       WordHedge x = new WordHedge();
       x.sheet(0, row[0], 2);

@@ -241,8 +241,8 @@ public final class TermsTest {
 
   private static void traits() {
     Doc.says("each IN a PLACE, HIGH (0 to 199; 20 at first), THICK (0 to 99; 5 at first), "
-        + "LAID (0 upright, 1 to greater PLACES, 2 to lesser ones; 0 at first), of so many WORDS (1 to 12; 4 at first), "
-        + "BROKE (how often; 0 to 9999; 0 at first).");
+        + "LAID (0 upright, 1 to greater PLACES, 2 to lesser ones; 0 at first), "
+        + "of so many WORDS (1 to 12; 4 at first), BROKE (how often; 0 to 9999; 0 at first).");
     WordHedge x = new WordHedge();
     x.slip(3, 6, 12);
     Due.traits(x, "a new one", 0, 3, 6, 20, 5, 0, 12, 0);
@@ -304,7 +304,8 @@ public final class TermsTest {
   }
 
   private static void covers() {
-    Doc.says("COVERS: its PLACE, and, if it is LAID, as many next to it that way as it REACHES (no farther than the end).");
+    Doc.says("COVERS: its PLACE, and, if it is LAID, as many next to it that way "
+        + "as it REACHES (no farther than the end).");
     WordHedge x = Due.told("latin in 8 high 199");
     Due.is("upright", x.of(0, 8), 1 << 8);
     x.change(0, 4, 1);

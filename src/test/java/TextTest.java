@@ -108,7 +108,8 @@ public final class TextTest {
   }
 
   private static void slips() {
-    Doc.says("ITEM: slip, hawthorn, promise, latin, elegy, slipper or may, perhaps in and a NUMBER (a PLACE; 0 without), "
+    Doc.says("ITEM: slip, hawthorn, promise, latin, elegy, slipper or may, "
+        + "perhaps in and a NUMBER (a PLACE; 0 without), "
         + "perhaps words and a NUMBER (1 to 12), perhaps high and a NUMBER (0 to 199), "
         + "perhaps up or down (LAID to greater, to lesser PLACES): a new one;");
     String[] kinds = {"slip", "hawthorn", "promise", "latin", "elegy", "slipper", "may"};
@@ -303,7 +304,8 @@ public final class TextTest {
   }
 
   private static void feed() {
-    Doc.says("THE TAPE gets the n lowest bytes of a number behind it, the highest of these first (n 1 to 4): how many it has.");
+    Doc.says("THE TAPE gets the n lowest bytes of a number behind it, "
+        + "the highest of these first (n 1 to 4): how many it has.");
     WordHedge x = new WordHedge();
     Due.is("four bytes, the highest first", x.feed(('m' << 24) + ('a' << 16) + ('y' << 8) + ';', 4), 4);
     Due.is("three of four", x.feed(('!' << 24) + ('m' << 16) + ('a' << 8) + 'y', 3), 7);
@@ -337,8 +339,9 @@ public final class TextTest {
     for (int n = 1; n <= 4; n++) {
       int more = n;
       Due.is(n + " bytes make it 120", withTape(120 - n).feed(0x20202020, n), 120);
-      Edge.refused(n + " bytes would make it 121", Due.FULL, () -> withTape(121 - more), x -> x.feed(0x3b3b3b3b, more));
-      Edge.refused(n + " bytes would make it " + (120 + n), Due.FULL, () -> withTape(120), x -> x.feed(0x3b3b3b3b, more));
+      Edge.Made nearlyFull = () -> withTape(121 - more);
+      Edge.refused(n + " bytes would make it 121", Due.FULL, nearlyFull, x -> x.feed(0x3b3b3b3b, more));
+      Edge.refused(n + " bytes on a full tape", Due.FULL, () -> withTape(120), x -> x.feed(0x3b3b3b3b, more));
     }
   }
 

@@ -202,7 +202,8 @@ public final class ToldTest {
 
   /** z from 1: 1103527590, 2524885223, 662824084, 3295386429: by 256 4310654, 9862832, 2589156, 12872603. */
   private static void leans() {
-    Doc.says("n times (1 to 20) two draws: THE LIST tells for this YEAR a LEANING AT the PLACE of the first one's rest by 16 "
+    Doc.says("n times (1 to 20) two draws: THE LIST tells for this YEAR a LEANING "
+        + "AT the PLACE of the first one's rest by 16 "
         + "with a WEIGHT that is the second one's rest by 100; then a YEAR: GAPS then, as a set.");
     WordHedge x = new WordHedge();
     Due.is("once", x.leans(1), 65535);
@@ -277,7 +278,8 @@ public final class ToldTest {
   }
 
   private static void odds() {
-    Doc.says("The odds that n (0 to 15) PLACES, each the rest by 16 of a draw, are all such as break by a WEIGHT (0 to 99) now: "
+    Doc.says("The odds that n (0 to 15) PLACES, each the rest by 16 of a draw, are all such as break by "
+        + "a WEIGHT (0 to 99) now: "
         + "a fraction in lowest terms: above (what 0), below the line (1).");
     WordHedge x = new WordHedge();
     isOdds(x, "16 of 16", 1, 15, 1, 1);
