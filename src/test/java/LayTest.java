@@ -277,6 +277,9 @@ public final class LayTest {
     slow.change(0, 4, 2);
     Due.is("two are covered in 59 years", slow.hurdlesFor(59), 14);
     Due.is("three in 60", slow.hurdlesFor(60), 13);
+    WordHedge weak = Due.told("slip high 40 up");
+    weak.change(0, 3, 0);
+    Due.is("not the least weight leans on the weakest", weak.hurdlesFor(1), 14);
   }
 
   private static void hurdlesForBeyond() {
