@@ -1,4 +1,5 @@
 import java.lang.reflect.Constructor;
+import java.lang.reflect.Field;
 import java.lang.reflect.Method;
 import java.lang.reflect.Modifier;
 import java.util.Arrays;
@@ -45,6 +46,9 @@ public final class EndsTest {
     for (Method m : WordHedge.class.getDeclaredMethods()) {
       boolean allowed = Modifier.isPublic(m.getModifiers()) || Modifier.isPrivate(m.getModifiers());
       Due.is("private or public: " + m.getName(), allowed ? 1 : 0, 1);
+    }
+    for (Field f : WordHedge.class.getDeclaredFields()) {
+      Due.is("private: " + f.getName(), Modifier.isPrivate(f.getModifiers()) ? 1 : 0, 1);
     }
     Constructor<?>[] made = WordHedge.class.getConstructors();
     Due.is("constructors", made.length, 1);
